@@ -973,14 +973,14 @@ public final class TapeSealer {
                 }
                 sum[LIMBS - 1] += 1L << 24;
                 multiply();
-                carryOver();
+                carryOver(other);
             }
         }
 
         /** The number is brought below 2 to the 130, less 5. */
         void reduce() {
-            carryOver();
-            carryOver();
+            carryOver(sum);
+            carryOver(sum);
             long carry = 5;
             for (int i = 0; i < LIMBS; i++) {
                 carry += sum[i];
@@ -1020,6 +1020,7 @@ public final class TapeSealer {
             return (int) (wide >>> shift) & 0xFF;
         }
 
+        /** The product comes to other, in limbs that are too big still. */
         private void multiply() {
             for (int i = 0; i < LIMBS; i++) {
                 long total = 0;
@@ -1029,13 +1030,12 @@ public final class TapeSealer {
                 }
                 other[i] = total;
             }
-            System.arraycopy(other, 0, sum, 0, LIMBS);
         }
 
-        private void carryOver() {
+        private void carryOver(long[] limbs) {
             long carry = 0;
             for (int i = 0; i < LIMBS; i++) {
-                carry += sum[i];
+                carry += limbs[i];
                 sum[i] = carry & LIMB_MASK;
                 carry >>>= LIMB_BITS;
             }

@@ -17,6 +17,7 @@ public final class ForgedHeadersTest {
         for (int seed = 0; seed < 200 && wrong == 0; seed++) {
             wrong += run(new Random(seed), claims[seed % claims.length]);
         }
+        wrong += epochToCome();
         System.out.println(wrong == 0 ? "all answers are as due" : wrong + " answers are not as due");
         System.exit(wrong == 0 ? 0 : 1);
     }
@@ -49,6 +50,29 @@ public final class ForgedHeadersTest {
         pair.delete(file);
         look(pair, random, file, claim[0]);
         return pair.wrong;
+    }
+
+    /** A header that stands there before its epoch is good from that epoch on. */
+    private static int epochToCome() {
+        Pair later = new Pair();
+        fill(later, new Random(1), 32);
+        later.epoch();
+        fill(later, new Random(2), 32);
+        later.epoch();
+        later.create(6);
+        later.finish();
+
+        Pair pair = new Pair();
+        fill(pair, new Random(1), 32);
+        pair.epoch();
+        for (int i = 0; i < 64; i++) {
+            pair.damage(1, i, later.model.tape[1][i] & 255);
+        }
+        pair.file(0, 1);
+        fill(pair, new Random(2), 32);
+        pair.epoch();
+        boolean isThere = pair.file(0, 1).equals("2");
+        return later.wrong + pair.wrong + (isThere ? 0 : 1);
     }
 
     private static void forge(Pair pair, Model.Header header) {

@@ -310,6 +310,18 @@ public final class PromisesTest {
         add(y, 768);
         due("file of four groups", 4, () -> y.file(0, 3));
         dueBytes(y, 0, 760, 8);
+        y.damage(0, 20, 1);
+        y.damage(1, 20, 1);
+        y.create(1);
+        fillRising(y, 192, 0);
+        y.append();
+        fillRising(y, 192, 0);
+        y.append();
+        fill(y, 1, 0);
+        y.damage(1, 20, 1);
+        due("groups that are a file's again", STATE, y::append);
+        y.damage(1, 20, 1);
+        due("and free again", 385, y::append);
     }
 
     private static void finish() {
@@ -385,8 +397,8 @@ public final class PromisesTest {
         x.append();
         fillRising(x, 192, 0);
         due("groups are free", 384, x::append);
-        x.damage(1, 20, 1);
         int before = x.state(3);
+        x.damage(1, 20, 1);
         due("no groups any more", STATE, x::finish);
         due("nothing written", before, () -> x.state(3));
         due("not stopped", 0, () -> x.state(4));
@@ -440,9 +452,12 @@ public final class PromisesTest {
     private static void readRecovers() {
         TapeSealer x = withFile(300);
         x.spoil(9);
-        dueBytes(x, 0, 50, 20);
+        for (int i = 0; i < 64; i++) {
+            x.damage(9, i, 255);
+        }
+        dueBytes(x, 0, 48, 48);
         x.spoil(12);
-        dueBytes(x, 0, 50, 20);
+        dueBytes(x, 0, 48, 48);
         x.damage(13, 20, 4);
         due("one bad, no parity right", LOST, () -> x.read(0, 50, 1));
         due("nothing is written by read", -1, () -> x.block(9, 0));
@@ -460,6 +475,10 @@ public final class PromisesTest {
                 TapeSealer z = withFile(192);
                 z.damage(8 + a, 63, 1);
                 z.spoil(8 + b);
+                for (int i = 0; i < 64; i++) {
+                    z.damage(8 + a, i, 255 - i);
+                    z.damage(8 + b, i, 1 + i);
+                }
                 dueBytes(z, 0, 0, 192);
             }
         }
