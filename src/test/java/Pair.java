@@ -18,6 +18,8 @@ final class Pair {
     final Model model = new Model();
     final List<String> calls = new ArrayList<>();
     int wrong;
+    /** Calls that were not made, since the object's promises end with the 512th. */
+    int beyond;
 
     boolean isUsedUp() {
         return calls.size() >= MOST_CALLS;
@@ -117,6 +119,7 @@ final class Pair {
 
     private String both(String call, Ask first, Ask second) {
         if (isUsedUp()) {
+            beyond++;
             return "none";
         }
         String got = answer(first);
