@@ -27,11 +27,13 @@ public final class TermsEdgesTest {
         segmentsOfEachLength();
         segmentsOfTheLongestFile();
         parityOfAGroup();
+        badBehindTheLastSegment();
         badAndRecovered();
         whatComesFromParity0IsLookedAt();
         writesAreWholeOrNotDone();
         writtenIsReadable();
         stoppedUntilMount();
+        callsUpTo512();
         Edges.end();
     }
 
@@ -371,6 +373,21 @@ public final class TermsEdgesTest {
         }
     }
 
+    /** "BAD is .. one behind the last segment if it is not readable or not 0.": not in any byte. */
+    private static void badBehindTheLastSegment() {
+        for (int block = 10; block < 12; block++) {
+            Pair x = Edges.start(Edges.files(96));
+            for (int i = 0; i < 64; i++) {
+                x.damage(block, i, 1 << (i % 8));
+                Edges.due("a block that is not 0 in byte " + i, 1, x.scrub(0));
+                Edges.due("it is then", 0, x.block(block, i));
+            }
+            x.spoil(block);
+            Edges.due("a block that is not readable", 1, x.scrub(0));
+            Edges.due("one that is 0", 0, x.scrub(0));
+        }
+    }
+
     /**
      * "with one bad data block from parity 0, or, if that is not readable or what comes does not
      * stand for it .., from parity 1 likewise; with two from both; else .. it is LOST": all sets of
@@ -492,5 +509,23 @@ public final class TermsEdgesTest {
         Edges.due("epoch", 2, x.epoch());
         Edges.due("rewrap", 1, x.rewrap(0));
         Edges.dueBytes(x, 0, 0, 60);
+    }
+
+    /** What it is: "An object is used for at most 512 calls after it has been made" */
+    private static void callsUpTo512() {
+        Pair x = Edges.start(Edges.files(577));
+        int writes = 26;
+        while (x.calls.size() < 506) {
+            x.spoil(8);
+            x.spoil(11);
+            Edges.due("scrub", 2, x.scrub(0));
+            writes += 2;
+        }
+        while (x.calls.size() < 510) {
+            Edges.due("epoch without a key", Edges.STATE, x.epoch());
+        }
+        Edges.due("call 511", 577, x.read(0, 0, 768));
+        Edges.due("call 512", writes, x.state(3));
+        Edges.due("calls", x.calls.size() == 512);
     }
 }
